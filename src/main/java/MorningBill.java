@@ -370,7 +370,7 @@ public final class MorningBill {
     }
 
     private static boolean isIn(int set, int number) {
-        return (set >> number & 1) == 1;
+        return ((set >> number) & 1) == 1;
     }
 
     private int hoursLeft() {
@@ -391,7 +391,7 @@ public final class MorningBill {
         int plan = 0;
         for (int place = 0; place < n; place++) {
             if (figureAt(n, row, place) == 1) {
-                plan |= 1 << now.hour + place;
+                plan |= 1 << (now.hour + place);
             }
         }
         return plan;
@@ -721,14 +721,14 @@ public final class MorningBill {
             int hours = 0;
             for (int back = 0; back < left; back++) {
                 if (isIn(number, back)) {
-                    hours |= 1 << firstHour + left - 1 - back;
+                    hours |= 1 << (firstHour + left - 1 - back);
                 }
             }
             return hours;
         }
 
         void take(int newPlan, int newTurns) {
-            int changed = newPlan ^ plan | newTurns ^ turns;
+            int changed = (newPlan ^ plan) | (newTurns ^ turns);
             int same = 0;
             while (same < followed && !isIn(changed, firstHour + same)) {
                 same++;
@@ -757,7 +757,8 @@ public final class MorningBill {
         private static void drift(int[] before, int[] then, int wind) {
             for (int cell = 0; cell < CELLS; cell++) {
                 int from = cell - wind;
-                then[cell] = isCell(from) && before[from] > 0 ? before[from] - 1 : 0;
+                int strength = from >= 0 && from < CELLS ? before[from] : 0;
+                then[cell] = strength > 0 ? strength - 1 : 0;
             }
         }
 
@@ -889,7 +890,7 @@ public final class MorningBill {
                 if (!isIn(group, nose)) {
                     int ahead = Integer.bitCount(group);
                     int orders = FACTORIALS[ahead] * FACTORIALS[others - ahead];
-                    above += (long) orders * (worth[group | 1 << nose] - worth[group]);
+                    above += (long) orders * (worth[group | (1 << nose)] - worth[group]);
                 }
             }
             return above;
@@ -977,7 +978,7 @@ public final class MorningBill {
         private void follow(Morning from, int bakerCell, int[][] strengths) {
             walk.start(from, bakerCell);
             for (int choice = 0; choice <= walk.left; choice++) {
-                walk.take(choice < walk.left ? 1 << walk.firstHour + choice : 0, 0);
+                walk.take(choice < walk.left ? 1 << (walk.firstHour + choice) : 0, 0);
                 for (int gone = 0; gone < walk.left; gone++) {
                     for (int nose = 0; nose < street.noses; nose++) {
                         strengths[choice][gone * NOSES + nose] = walk.smells[gone + 1][street.cell[nose]];
