@@ -1,18 +1,36 @@
 /** Counts and prints the calls whose answer is not the one that is due. */
 final class Due {
     private final String name;
+    private String told = "";
     private int calls;
+    private int callsBeforeSentence;
+    private int sentences;
     private int wrong;
 
     Due(String name) {
         this.name = name;
     }
 
+    /** What follows is the test of one sentence of the document: the promise's number and the sentence's words. */
+    void sentence(int promise, String words) {
+        closeSentence();
+        sentences++;
+        callsBeforeSentence = calls;
+        told = " promise " + promise + " \"" + words + "\":";
+    }
+
+    private void closeSentence() {
+        if (sentences > 0 && calls == callsBeforeSentence) {
+            wrong++;
+            System.out.println(name + ":" + told + " nothing was asked");
+        }
+    }
+
     void is(String call, long got, long want) {
         calls++;
         if (got != want) {
             wrong++;
-            System.out.println(name + ": " + call + " answered " + got + ", due is " + want);
+            System.out.println(name + ":" + told + " " + call + " answered " + got + ", due is " + want);
         }
     }
 
@@ -25,7 +43,9 @@ final class Due {
     }
 
     void end() {
-        System.out.println(name + ": " + calls + " answers, " + wrong + " not as due");
+        closeSentence();
+        System.out.println(name + ": " + (sentences > 0 ? sentences + " sentences, " : "") + calls + " answers, "
+                + wrong + " not as due");
         if (wrong != 0 || calls == 0) {
             System.exit(1);
         }
@@ -36,6 +56,15 @@ final class Due {
         MorningBill bill = new MorningBill();
         write(bill, text);
         bill.street();
+        return bill;
+    }
+
+    /** An object whose street is the told one, after hours told by figures (1 baked, 0 idle). */
+    static MorningBill street(String text, String hours) {
+        MorningBill bill = street(text);
+        for (int hour = 0; hour < hours.length(); hour++) {
+            bill.hour(hours.charAt(hour) == '1');
+        }
         return bill;
     }
 
