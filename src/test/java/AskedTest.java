@@ -30,7 +30,7 @@ public final class AskedTest {
     }
 
     private static void asked(String call, Future.Ask ask) {
-        for (Scenes scene : Scenes.all()) {
+        for (Scene scene : Scene.all()) {
             MorningBill asked = scene.make();
             long answer = ask.of(asked);
             String difference = Future.difference(scene.make(), asked);
@@ -143,7 +143,7 @@ public final class AskedTest {
 
     private static void p27_nothingChangesButTheSeed() {
         DUE.sentence(27, "(Nothing changes but THE SEED.)");
-        for (Scenes scene : Scenes.all()) {
+        for (Scene scene : Scene.all()) {
             for (int m = 1; m <= 20; m += 19) {
                 MorningBill asked = scene.make();
                 long seed = asked.seed(3);
@@ -166,7 +166,7 @@ public final class AskedTest {
     /** Each call of plans twice, with all others between: no answer hangs on what was asked before. */
     private static void p13_eachAnswersTheSameAgain() {
         DUE.sentence(13, NOTHING);
-        for (Scenes scene : Scenes.all()) {
+        for (Scene scene : Scene.all()) {
             MorningBill bill = scene.make();
             String first = allPlans(bill);
             DUE.holds(scene + ": all is answered as before", first.equals(allPlans(bill)));

@@ -13,7 +13,7 @@ public final class EdgesChancesTest {
     private static final int MIN = Integer.MIN_VALUE;
     private static final int MAX = Integer.MAX_VALUE;
     private static final String[] STREETS = {
-        Scenes.STREET, "S441E-WWEEW-N4350N5242N3161N6133N2170N4993", "S491EEEEEEEEN4240N7150N2163N6132N8171N3180",
+        Scene.STREET, "S441E-WWEEW-N4350N5242N3161N6133N2170N4993", "S491EEEEEEEEN4240N7150N2163N6132N8171N3180",
     };
 
     public static void main(String[] args) {
@@ -25,6 +25,7 @@ public final class EdgesChancesTest {
         p24_whatItAlonePays();
         p24_refusals();
         p25_eachBakesInOneHourLeftOrInNone();
+        p25_smellOfEachByItself();
         p25_strongerOfLikeOnesTheFirst();
         p25_getsThemFromTheFirst();
         p25_howManyPairs();
@@ -322,8 +323,16 @@ public final class EdgesChancesTest {
         }
         bakersAre("no hour is left", Due.street("S010-N0150", "1"), 0, 1, 99);
         bakersAre("of a new object", new MorningBill(), 9, 1, 99);
-        MorningBill alone = Due.street("S050-N0650");
-        bakersAre("two smells are not added up", alone, 0, 4, 0);
+    }
+
+    private static void p25_smellOfEachByItself() {
+        DUE.sentence(25, "the smell of each goes by itself; a NOSE has it, if the stronger of both is strong enough;");
+        bakersAre("two smells are not added up", Due.street("S050-N0650"), 0, 4, 0);
+        bakersAre("just strong enough", Due.street("S051-N0550"), 0, 1, 9);
+        bakersAre("what is there is the first one's", Due.street("S052---N0150", "1"), 9, 1, 99);
+        bakersAre("what is there is not the second one's", Due.street("S131-EN2550", "1"), 2, 1, 99);
+        bakersAre("nor at 0", Due.street("S131-WN0550", "1"), 0, 1, 99);
+        bakersAre("nor at 9", Due.street("S831-EN9550", "1"), 9, 1, 99);
     }
 
     private static void p25_strongerOfLikeOnesTheFirst() {
@@ -331,8 +340,7 @@ public final class EdgesChancesTest {
         bakersAre("like ones: the first one", Due.street("S013-N0150"), 0, 1, 9);
         bakersAre("the first one's cell", Due.street("S913-N9150"), 0, 1, 9);
         bakersAre("the second one's cell", Due.street("S013-N9150"), 9, 1, 90);
-        MorningBill before = Due.street("S052---N0150", "1");
-        bakersAre("what is there is the first one's", before, 9, 1, 99);
+        bakersAre("a single penny", Due.street("S010-N9110"), 9, 2, 0);
         MorningBill two = Due.street("S090-EN1150");
         bakersAre("like ones in a later hour", two, 0, 3, 0);
     }

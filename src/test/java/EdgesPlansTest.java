@@ -1,4 +1,5 @@
 import java.util.ArrayList;
+import java.util.Arrays;
 import java.util.List;
 
 /**
@@ -15,7 +16,7 @@ public final class EdgesPlansTest {
     private static final int MAX = Integer.MAX_VALUE;
     /** Streets of eight hours with all contracts, some with much to gain, some with little. */
     private static final String[] STREETS = {
-        Scenes.STREET, "S441E-WWEEW-N4350N5242N3161N6133N2170N4993", "S590--------N5990N5193N4110",
+        Scene.STREET, "S441E-WWEEW-N4350N5242N3161N6133N2170N4993", "S590--------N5990N5193N4110",
         "S091EEEEEEEEN0940N3450N7130N9190N4363N1271", "S925WWW-WWEEN9520N8440N7350N5130N9181N8173",
     };
 
@@ -163,6 +164,11 @@ public final class EdgesPlansTest {
         DUE.is("best(false): all hours", Due.street("S012EEEEEEEEN0190").best(false), 255);
         DUE.is("best(true): all hours", Due.street("S012EEEEEEEEN0190").best(true), 56);
         DUE.is("best(true), by the hour", all.best(true), 72);
+        for (int hour = 0; hour < 8; hour++) {
+            String east = "WWWWWWWW".substring(0, hour) + "E" + "WWWWWWWW".substring(hour + 1);
+            DUE.is("best(false): it pays at " + hour, Due.street("S012" + east + "N0152").best(false), 1 << hour);
+            DUE.is("best(true): it pays at " + hour, Due.street("S012" + east + "N0152").best(true), 3);
+        }
         DUE.is("best(false), below none is most", Due.street("S019-N0191N9191").best(false), 0);
         DUE.is("best(true), below none is most", Due.street("S018-N0191N9191").best(true), -17);
         DUE.is("best(false), below none is most", Due.street("S018-N0191N9191").best(false), 1);
@@ -172,11 +178,26 @@ public final class EdgesPlansTest {
         DUE.sentence(14, "of like ones that of fewest HOURS, of these the least by bits.");
         DUE.is("all are like", Due.street("S010EEEEEEEE").best(false), 0);
         DUE.is("it pays what it costs", Due.street("S015EEEEEEEEN0150").best(false), 0);
-        DUE.is("one of two", Due.street("S022--N0150").best(false), 1);
+        MorningBill four = Due.street("S022---N0120");
+        int[] like = {1, 2, 3, 5};
+        for (int plan : like) {
+            DUE.is("four are like: by(" + plan + ")", four.by(plan), 2);
+        }
+        DUE.is("the least by bits of the two of one hour", four.best(false), 1);
         MorningBill fewest = Due.street("S620W--EN7180");
         DUE.is("by(3)", fewest.by(3), 8);
         DUE.is("by(4)", fewest.by(4), 8);
         DUE.is("fewer hours go before less bits", fewest.best(false), 4);
+        String[] streets = {"S350---WWN2540", "S530W-EWE-N5221", "S540----WEN5632", "S550--WEWN3541N5412",
+            "S451WWE-EEN4110N6620", "S532--WEEWN5221", "S430-E-E-N4501"};
+        int[] due = {3, 23, 40, 8, 1, 1, 0};
+        for (int each = 0; each < streets.length; each++) {
+            DUE.is(streets[each] + ": best(false)", Due.street(streets[each]).best(false), due[each]);
+        }
+        for (int number = 0; number < 300; number++) {
+            String street = Scene.smallStreet(number);
+            DUE.is(street + ": best(false)", Due.street(street).best(false), bestByTrying(Due.street(street)));
+        }
         MorningBill one = Due.street("S010EWEWEWEWN0152", "0");
         DUE.is("the hours of east wind that are left", one.best(false), 4 + 16 + 64);
         MorningBill last = Due.street("S019-------EN0192N0112");
@@ -334,6 +355,8 @@ public final class EdgesPlansTest {
         for (int nose = 0; nose < 6; nose++) {
             shareIs("six that are like", six, nose, new Fraction(6 * 72 - 1, 6));
         }
+        shareIs("by east wind", Due.street("S014EWN0192"), 0, new Fraction(5, 1));
+        shareIs("by east wind", Due.street("S014W-N0192"), 0, new Fraction(0, 1));
         MorningBill gone = Due.street("S091-N0190", "1");
         shareIs("no hour is left", gone, 0, new Fraction(0, 1));
     }
@@ -518,18 +541,26 @@ public final class EdgesPlansTest {
             + " by which just the told ones have it in some HOUR left; NONE.");
         for (String street : STREETS) {
             for (int gone = 0; gone <= 8; gone += 2) {
-                MorningBill bill = after(street, gone);
-                List<Integer> plans = plansLeft(bill);
-                int groups = 1 << bill.count(2);
-                for (int noses = 0; noses < groups; noses++) {
-                    int due = NONE;
-                    MorningBill tried = after(street, gone);
-                    for (int place = plans.size() - 1; place >= 0; place--) {
-                        due = tried.had(plans.get(place)) == noses ? plans.get(place) : due;
-                    }
-                    DUE.is(street + " at " + gone + ": only(" + noses + ")", bill.only(noses), due);
-                }
+                onlyByTrying(street, gone);
             }
+        }
+        for (int number = 0; number < 100; number++) {
+            onlyByTrying(Scene.smallStreet(number), 0);
+        }
+    }
+
+    private static void onlyByTrying(String street, int gone) {
+        MorningBill bill = after(street, gone);
+        MorningBill tried = after(street, gone);
+        int groups = 1 << bill.count(2);
+        int[] due = new int[groups];
+        Arrays.fill(due, NONE);
+        for (int plan : plansLeft(tried)) {
+            int noses = tried.had(plan);
+            due[noses] = due[noses] == NONE ? plan : due[noses];
+        }
+        for (int noses = 0; noses < groups; noses++) {
+            DUE.is(street + " at " + gone + ": only(" + noses + ")", bill.only(noses), due[noses]);
         }
     }
 
@@ -543,6 +574,11 @@ public final class EdgesPlansTest {
         MorningBill fewest = Due.street("S620W--EN7180");
         DUE.is("had(3)", fewest.had(3), 1);
         DUE.is("fewer hours go before less bits", fewest.only(1), 4);
+        DUE.is("6 is less than 9", Due.street("S350WW-EEEN3603").only(1), 6);
+        DUE.is("6 is less than 9", Due.street("S541WE-WN5530").only(1), 6);
+        DUE.is("one of 8 is fewer than two of 6", Due.street("S531-W--EN6221").only(1), 8);
+        DUE.is("two of 5 are fewer than three of 7", Due.street("S343-EWEEEN4501N6111").only(3), 5);
+        DUE.is("two of 10 are fewer than three of 7", Due.street("S550EWEWWEN4631N6400").only(3), 10);
         MorningBill all = Due.street("S920--------N9910");
         DUE.is("all eight hours", all.only(1), 255);
     }

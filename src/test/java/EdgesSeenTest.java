@@ -204,9 +204,14 @@ public final class EdgesSeenTest {
         bill.hour(true);
         bill.hour(true);
         whenIs("at the end", bill, 1, 1, 6);
-        bill = Due.street("S020---N0110", "11");
-        bill.see(0, 2, false);
-        whenIs("not from the smell that is there", bill, 2, 0, 6);
+        for (int baker = 0; baker < 10; baker++) {
+            bill = Due.street("S" + baker + "20---N" + baker + "110", "11");
+            bill.see(0, 1, false);
+            bill.bestChimney();
+            whenIs("not from the smell that is there", bill, 2, 0, 3);
+            bill.bakers(baker, 0);
+            whenIs("not from the smell that is there", bill, 2, 0, 3);
+        }
     }
 
     /** Each plan is acted; those by which nose and hour were as told are counted. */
@@ -214,13 +219,13 @@ public final class EdgesSeenTest {
         DUE.sentence(22, "how many; HOURS (bits) of all, of none.");
         int[][] has = new int[256][8];
         for (int plan = 0; plan < 256; plan++) {
-            MorningBill acted = Due.street(Scenes.STREET);
+            MorningBill acted = Due.street(Scene.STREET);
             for (int hour = 0; hour < 8; hour++) {
                 has[plan][hour] = acted.hour((plan >> hour & 1) == 1);
             }
         }
         for (int like = 0; like < 256; like++) {
-            MorningBill bill = Due.street(Scenes.STREET, "101");
+            MorningBill bill = Due.street(Scene.STREET, "101");
             int[][] sights = new int[like % 7][];
             for (int sight = 0; sight < sights.length; sight++) {
                 int nose = (like + sight * 5) % 6;

@@ -304,7 +304,7 @@ public final class EdgesSlotsTest {
 
     private static void p30_outside() {
         DUE.sentence(30, "10 SEEN. OUTSIDE.");
-        for (Scenes scene : Scenes.all()) {
+        for (Scene scene : Scene.all()) {
             MorningBill bill = scene.make();
             int[] outside = {-1, 11, 12, MIN, MAX};
             for (int what : outside) {

@@ -50,7 +50,7 @@ public final class RefusedTest {
     }
 
     /** The call is refused as told, and the object goes on like one on which it was never called. */
-    private static void refused(Scenes scene, String call, long due, Future.Ask ask) {
+    private static void refused(Scene scene, String call, long due, Future.Ask ask) {
         MorningBill asked = scene.make();
         DUE.is(scene + ": " + call, ask.of(asked), due);
         String difference = Future.difference(scene.make(), asked);
@@ -58,7 +58,7 @@ public final class RefusedTest {
     }
 
     private static void refusedInAll(String call, long due, Future.Ask ask) {
-        for (Scenes scene : Scenes.all()) {
+        for (Scene scene : Scene.all()) {
             refused(scene, call, due, ask);
         }
     }
@@ -69,18 +69,18 @@ public final class RefusedTest {
         for (int letter : outside) {
             refusedInAll("write(" + letter + ")", OUTSIDE, bill -> bill.write(letter));
         }
-        refused(Scenes.FULL, "write('0')", FULL, bill -> bill.write('0'));
-        refused(Scenes.FULL, "write(0)", FULL, bill -> bill.write(0));
-        refused(Scenes.FULL, "write(255)", FULL, bill -> bill.write(255));
+        refused(Scene.FULL, "write('0')", FULL, bill -> bill.write('0'));
+        refused(Scene.FULL, "write(0)", FULL, bill -> bill.write(0));
+        refused(Scene.FULL, "write(255)", FULL, bill -> bill.write(255));
     }
 
     private static void p05_streetRefusedChangesNothing() {
         DUE.sentence(5, NOTHING);
-        refused(Scenes.NEW, "street()", STATE, MorningBill::street);
-        refused(Scenes.HALF_WRITTEN, "street()", STATE, MorningBill::street);
-        refused(Scenes.FULL, "street()", STATE, MorningBill::street);
-        Scenes[] withAct = {Scenes.MORNING, Scenes.EVENING};
-        for (Scenes scene : withAct) {
+        refused(Scene.NEW, "street()", STATE, MorningBill::street);
+        refused(Scene.HALF_WRITTEN, "street()", STATE, MorningBill::street);
+        refused(Scene.FULL, "street()", STATE, MorningBill::street);
+        Scene[] withAct = {Scene.MORNING, Scene.EVENING};
+        for (Scene scene : withAct) {
             MorningBill one = scene.make();
             MorningBill other = scene.make();
             one.write('X');
@@ -101,7 +101,7 @@ public final class RefusedTest {
 
     private static void p08_noseRefusedChangesNothing() {
         DUE.sentence(8, NOTHING);
-        for (Scenes scene : Scenes.all()) {
+        for (Scene scene : Scene.all()) {
             int[] unknown = {-1, scene.noses(), 6, 7, MIN, MAX};
             for (int nose : unknown) {
                 refused(scene, "nose(" + nose + ", 0)", UNKNOWN, bill -> bill.nose(nose, 0));
@@ -116,8 +116,8 @@ public final class RefusedTest {
 
     private static void p10_hourRefusedChangesNothing() {
         DUE.sentence(10, NOTHING);
-        Scenes[] ended = {Scenes.NEW, Scenes.HALF_WRITTEN, Scenes.EVENING};
-        for (Scenes scene : ended) {
+        Scene[] ended = {Scene.NEW, Scene.HALF_WRITTEN, Scene.EVENING};
+        for (Scene scene : ended) {
             refused(scene, "hour(true)", STATE, bill -> bill.hour(true));
             refused(scene, "hour(false)", STATE, bill -> bill.hour(false));
         }
@@ -129,8 +129,8 @@ public final class RefusedTest {
         for (int cell : outside) {
             refusedInAll("chimney(" + cell + ")", OUTSIDE, bill -> bill.chimney(cell));
         }
-        Scenes[] ended = {Scenes.NEW, Scenes.HALF_WRITTEN, Scenes.EVENING};
-        for (Scenes scene : ended) {
+        Scene[] ended = {Scene.NEW, Scene.HALF_WRITTEN, Scene.EVENING};
+        for (Scene scene : ended) {
             refused(scene, "chimney(0)", STATE, bill -> bill.chimney(0));
             refused(scene, "chimney(6)", STATE, bill -> bill.chimney(6));
             refused(scene, "chimney(9)", STATE, bill -> bill.chimney(9));
@@ -139,10 +139,10 @@ public final class RefusedTest {
 
     private static void p12_undoRefusedChangesNothing() {
         DUE.sentence(12, NOTHING);
-        refused(Scenes.NEW, "undo()", STATE, MorningBill::undo);
-        refused(Scenes.HALF_WRITTEN, "undo()", STATE, MorningBill::undo);
-        MorningBill one = Scenes.MORNING.make();
-        MorningBill other = Scenes.MORNING.make();
+        refused(Scene.NEW, "undo()", STATE, MorningBill::undo);
+        refused(Scene.HALF_WRITTEN, "undo()", STATE, MorningBill::undo);
+        MorningBill one = Scene.MORNING.make();
+        MorningBill other = Scene.MORNING.make();
         one.again(0);
         other.again(0);
         DUE.is("undo() when one goes on", other.undo(), STATE);
@@ -160,7 +160,7 @@ public final class RefusedTest {
 
     private static void p16_shareRefusedChangesNothing() {
         DUE.sentence(16, NOTHING);
-        for (Scenes scene : Scenes.all()) {
+        for (Scene scene : Scene.all()) {
             int[] unknown = {-1, scene.noses(), 6, 7, MIN, MAX};
             for (int nose : unknown) {
                 refused(scene, "share(" + nose + ", true)", UNKNOWN - LESS, bill -> bill.share(nose, true));
@@ -188,7 +188,7 @@ public final class RefusedTest {
 
     private static void p19_onlyRefusedChangesNothing() {
         DUE.sentence(19, NOTHING);
-        for (Scenes scene : Scenes.all()) {
+        for (Scene scene : Scene.all()) {
             int[] outside = {-1, 1 << scene.noses(), 64, 128, MIN, MAX};
             for (int noses : outside) {
                 refused(scene, "only(" + noses + ")", OUTSIDE, bill -> bill.only(noses));
@@ -198,7 +198,7 @@ public final class RefusedTest {
 
     private static void p20_seeRefusedChangesNothing() {
         DUE.sentence(20, NOTHING);
-        for (Scenes scene : Scenes.all()) {
+        for (Scene scene : Scene.all()) {
             int[] unknown = {-1, scene.noses(), 6, 7, MIN, MAX};
             for (int nose : unknown) {
                 refused(scene, "see(" + nose + ", 0, true)", UNKNOWN, bill -> bill.see(nose, 0, true));
@@ -209,8 +209,8 @@ public final class RefusedTest {
                 refused(scene, "see(0, " + hour + ", false)", due, bill -> bill.see(0, hour, false));
             }
         }
-        refused(Scenes.FULL, "see(0, 0, false)", FULL, bill -> bill.see(0, 0, false));
-        refused(Scenes.FULL, "see(5, 7, true)", FULL, bill -> bill.see(5, 7, true));
+        refused(Scene.FULL, "see(0, 0, false)", FULL, bill -> bill.see(0, 0, false));
+        refused(Scene.FULL, "see(5, 7, true)", FULL, bill -> bill.see(5, 7, true));
     }
 
     private static void p22_whenRefusedChangesNothing() {
@@ -234,7 +234,7 @@ public final class RefusedTest {
     private static void p24_fairRefusedChangesNothing() {
         DUE.sentence(24, NOTHING);
         int[][] outside = {{-1, 0}, {256, 0}, {MIN, 5}, {MAX, 5}, {0, -1}, {0, 11}, {255, MIN}, {255, MAX}};
-        for (Scenes scene : Scenes.all()) {
+        for (Scene scene : Scene.all()) {
             for (int[] told : outside) {
                 String call = "fair(0, " + told[0] + ", " + told[1] + ", ";
                 long due = (scene.hasNoses() ? OUTSIDE : UNKNOWN) - FAR_LESS;
@@ -282,10 +282,10 @@ public final class RefusedTest {
         for (int slot : unknown) {
             refusedInAll("again(" + slot + ")", UNKNOWN, bill -> bill.again(slot));
         }
-        refused(Scenes.NEW, "again(0)", STATE, bill -> bill.again(0));
-        refused(Scenes.HALF_WRITTEN, "again(1)", STATE, bill -> bill.again(1));
-        refused(Scenes.MORNING, "again(1)", STATE, bill -> bill.again(1));
-        refused(Scenes.EVENING, "again(0)", STATE, bill -> bill.again(0));
+        refused(Scene.NEW, "again(0)", STATE, bill -> bill.again(0));
+        refused(Scene.HALF_WRITTEN, "again(1)", STATE, bill -> bill.again(1));
+        refused(Scene.MORNING, "again(1)", STATE, bill -> bill.again(1));
+        refused(Scene.EVENING, "again(0)", STATE, bill -> bill.again(0));
     }
 
     private static void p30_countRefusedChangesNothing() {
@@ -298,14 +298,14 @@ public final class RefusedTest {
 
     private static void p02_firstNamedOfWrite() {
         DUE.sentence(2, FIRST_NAMED);
-        DUE.is("write(-1) when full", Scenes.FULL.make().write(-1), OUTSIDE);
-        DUE.is("write(256) when full", Scenes.FULL.make().write(256), OUTSIDE);
-        DUE.is("write(255) when full", Scenes.FULL.make().write(255), FULL);
+        DUE.is("write(-1) when full", Scene.FULL.make().write(-1), OUTSIDE);
+        DUE.is("write(256) when full", Scene.FULL.make().write(256), OUTSIDE);
+        DUE.is("write(255) when full", Scene.FULL.make().write(255), FULL);
     }
 
     private static void p08_firstNamedOfNose() {
         DUE.sentence(8, FIRST_NAMED);
-        MorningBill bill = Scenes.MORNING.make();
+        MorningBill bill = Scene.MORNING.make();
         DUE.is("nose(6, 5)", bill.nose(6, 5), UNKNOWN);
         DUE.is("nose(-1, -1)", bill.nose(-1, -1), UNKNOWN);
         DUE.is("nose(5, 5)", bill.nose(5, 5), OUTSIDE);
@@ -313,7 +313,7 @@ public final class RefusedTest {
 
     private static void p11_firstNamedOfChimney() {
         DUE.sentence(11, FIRST_NAMED);
-        MorningBill bill = Scenes.EVENING.make();
+        MorningBill bill = Scene.EVENING.make();
         DUE.is("chimney(10) with no hour left", bill.chimney(10), OUTSIDE);
         DUE.is("chimney(-1) with no hour left", bill.chimney(-1), OUTSIDE);
         DUE.is("chimney(9) with no hour left", bill.chimney(9), STATE);
@@ -321,18 +321,18 @@ public final class RefusedTest {
 
     private static void p20_firstNamedOfSee() {
         DUE.sentence(20, FIRST_NAMED);
-        MorningBill bill = Scenes.FULL.make();
+        MorningBill bill = Scene.FULL.make();
         DUE.is("see(6, 8, true) when full", bill.see(6, 8, true), UNKNOWN);
         DUE.is("see(6, 7, true) when full", bill.see(6, 7, true), UNKNOWN);
         DUE.is("see(5, 8, true) when full", bill.see(5, 8, true), OUTSIDE);
         DUE.is("see(5, -1, true) when full", bill.see(5, -1, true), OUTSIDE);
         DUE.is("see(5, 7, true) when full", bill.see(5, 7, true), FULL);
-        DUE.is("see(6, 8, true) when there is room", Scenes.MORNING.make().see(6, 8, true), UNKNOWN);
+        DUE.is("see(6, 8, true) when there is room", Scene.MORNING.make().see(6, 8, true), UNKNOWN);
     }
 
     private static void p24_firstNamedOfFair() {
         DUE.sentence(24, FIRST_NAMED);
-        MorningBill bill = Scenes.MORNING.make();
+        MorningBill bill = Scene.MORNING.make();
         DUE.is("fair(6, 256, 11, true)", bill.fair(6, 256, 11, true), UNKNOWN - FAR_LESS);
         DUE.is("fair(6, 0, 11, false)", bill.fair(6, 0, 11, false), UNKNOWN - FAR_LESS);
         DUE.is("fair(-1, -1, 0, true)", bill.fair(-1, -1, 0, true), UNKNOWN - FAR_LESS);
@@ -350,7 +350,7 @@ public final class RefusedTest {
     /** Refused calls of all kinds one behind the other: none counts. */
     private static void p10_manyRefusedOnesInARow() {
         DUE.sentence(10, NOTHING);
-        MorningBill bill = Scenes.EVENING.make();
+        MorningBill bill = Scene.EVENING.make();
         for (int time = 0; time < 10; time++) {
             DUE.is("hour(true)", bill.hour(true), STATE);
             DUE.is("chimney(3)", bill.chimney(3), STATE);
@@ -358,7 +358,7 @@ public final class RefusedTest {
             DUE.is("keep(2)", bill.keep(2), UNKNOWN);
             DUE.is("mornings(0)", bill.mornings(0), OUTSIDE - LESS);
         }
-        String difference = Future.difference(Scenes.EVENING.make(), bill);
+        String difference = Future.difference(Scene.EVENING.make(), bill);
         DUE.holds("after fifty refused calls came " + difference, difference.isEmpty());
     }
 }

@@ -1,7 +1,8 @@
 import java.util.List;
+import java.util.Random;
 
 /** Objects in all kinds of states, each made anew: what is refused or asked must leave every one as it is. */
-enum Scenes {
+enum Scene {
     /** As it is made. */
     NEW,
     /** A text that lacks one letter of a street; the street is the first one. */
@@ -43,8 +44,25 @@ enum Scenes {
         return this == MORNING || this == FULL;
     }
 
-    static List<Scenes> all() {
+    static List<Scene> all() {
         return List.of(values());
+    }
+
+    /** One of many streets with little at stake, so that many plans are like: each number has its own. */
+    static String smallStreet(int number) {
+        Random chance = new Random(number);
+        StringBuilder text = new StringBuilder("S").append(3 + chance.nextInt(3));
+        text.append(1 + chance.nextInt(4)).append(chance.nextInt(3));
+        int winds = 2 + chance.nextInt(5);
+        for (int hour = 0; hour < winds; hour++) {
+            text.append("EW-".charAt(chance.nextInt(3)));
+        }
+        int noses = 1 + chance.nextInt(3);
+        for (int nose = 0; nose < noses; nose++) {
+            text.append('N').append(3 + chance.nextInt(3)).append(1 + chance.nextInt(3));
+            text.append(chance.nextInt(4)).append(chance.nextInt(4));
+        }
+        return text.toString();
     }
 
     private static MorningBill halfWritten() {
