@@ -1,14 +1,20 @@
+import java.io.IOException;
 import java.lang.reflect.Constructor;
 import java.lang.reflect.Field;
 import java.lang.reflect.Method;
 import java.lang.reflect.Modifier;
+import java.nio.file.Files;
+import java.nio.file.Path;
 import java.util.ArrayList;
 import java.util.HashSet;
 import java.util.List;
 import java.util.Set;
 import java.util.TreeSet;
 
-/** The class has the document's face and no other, and the shape that LANGUAGE.md asks for. */
+/**
+ * The class has the document's face and no other, and the shape that LANGUAGE.md asks for. Run in the project's
+ * folder.
+ */
 public final class FaceTest {
     private static final Due DUE = new Due("FaceTest");
     private static final String[] FACE = {
@@ -23,9 +29,14 @@ public final class FaceTest {
         "public int keep(int)", "public int again(int)", "public int count(int)",
     };
 
-    public static void main(String[] args) {
+    private static final Path DOCUMENT = Path.of("../shared/DOC.md");
+
+    public static void main(String[] args) throws IOException {
         constants();
         face();
+        if (Files.exists(DOCUMENT)) {
+            listIsTheDocuments(Files.readString(DOCUMENT));
+        }
         shape();
         DUE.end();
     }
@@ -66,6 +77,22 @@ public final class FaceTest {
         DUE.is("constructors", constructors.length, 1);
         DUE.holds("it is public", Modifier.isPublic(constructors[0].getModifiers()));
         DUE.is("its parameters", constructors[0].getParameterCount(), 0);
+    }
+
+    /** The list above has the methods that stand in the document's own face, without the names of their numbers. */
+    private static void listIsTheDocuments(String document) {
+        int from = document.indexOf("```java");
+        String face = document.substring(from, document.indexOf("```", from + 3));
+        Set<String> methods = new TreeSet<>();
+        for (String line : face.lines().toList()) {
+            if (line.matches("    public (int|long) .*")) {
+                methods.add(line.trim().replace(";", "").replaceAll("(int|long|boolean) \\w+(?=[,)])", "$1")
+                    .replace(", ", ","));
+            }
+        }
+        DUE.holds("the list is the document's: " + methods, methods.equals(new TreeSet<>(List.of(FACE))));
+        DUE.holds("so are the constants", face.contains("    public static final int UNKNOWN = -1, OUTSIDE = -2,"
+            + " STATE = -3, FULL = -4, NONE = -99;"));
     }
 
     private static void shape() {

@@ -9,24 +9,28 @@ public final class RoomTest {
     /** The measuring itself makes a few bytes once; one object a round would be this many times as much. */
     private static final int ROUNDS = 100;
     private static final int SMALLEST_OBJECT = 16;
+    private static final String STREET = "S595EEW-EWE-N5350N4290N6181N3270N7153N2162";
 
     public static void main(String[] args) {
         if (!THREADS.isThreadAllocatedMemorySupported()) {
             System.out.println("RoomTest: this machine can't tell what is made");
             return;
         }
-        allCalls(Due.street("S595EEW-EWE-N5350N4290N6181N3270N7153N2162"));
-        MorningBill bill = Due.street("S595EEW-EWE-N5350N4290N6181N3270N7153N2162");
+        allCalls(Due.street(STREET));
+        MorningBill[] bills = new MorningBill[ROUNDS];
+        for (int round = 0; round < ROUNDS; round++) {
+            bills[round] = Due.street(STREET);
+        }
         long before = made();
         long nothing = made() - before;
         before = made();
-        for (int round = 0; round < ROUNDS; round++) {
-            allCalls(bill);
+        for (MorningBill each : bills) {
+            allCalls(each);
         }
         long calls = made() - before - nothing;
         DUE.holds("no call makes an object: " + calls + " bytes", calls < ROUNDS * SMALLEST_OBJECT);
         before = made();
-        bill = new MorningBill();
+        MorningBill bill = new MorningBill();
         long one = made() - before - nothing;
         DUE.holds("a new object is small: " + one + " bytes", one > 0 && one < 20000);
         DUE.is("it is new", bill.count(6), 0);
@@ -69,7 +73,7 @@ public final class RoomTest {
         bill.write('X');
         bill.fault();
         bill.wipe();
-        Due.write(bill, "S595EEW-EWE-N5350N4290N6181N3270N7153N2162");
+        Due.write(bill, STREET);
         bill.street();
     }
 }
